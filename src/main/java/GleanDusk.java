@@ -123,7 +123,7 @@ public final class GleanDusk {
     public int goes(int g, int f) {
         if (!now.hasGleaner(g) || !now.hasField(f)) return refuseBad();
         int was = now.dusk.at[g];
-        // only one who went elsewhere may be undone
+        // the document undoes one who went elsewhere, so one who stays leaves nothing to undo
         if (was != f) {
             now.remember();
             now.dusk.at[g] = f;

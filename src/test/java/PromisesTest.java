@@ -179,7 +179,8 @@ public final class PromisesTest {
             "parish 4;field 1 123;", "parish 4;gleaner 0;", "parish 4;field 0 0;gleaner 1;", "parish 4;glean 0;",
             "parish 4;glean 13;", "parish 4;glean 7;glean 6;", "parish 4;glean 12;glean 1;", "parish 4;\t",
             "parish\n4;", "parish -1;", "parish 4;glean 1 1;", "parish 4;fie", "parish 4;12", "parish 4,",
-            "parish 4;" + fields6 + "field0 1;", "parish 4;" + fields6 + "field", "parish 4;field0 1;" + gleaners5 + "gleaner0;",
+            "parish 4;" + fields6 + "field0 1;", "parish 4;" + fields6 + "field",
+            "parish 4;field0 1;" + gleaners5 + "gleaner0;",
             "parish 4;field0 1;" + gleaners5 + " gleaner9"};
         int[] places = {
             0, 3, 6, 7, 8, 9, 14, 16,
@@ -189,7 +190,8 @@ public final class PromisesTest {
             17, 17, 27, 15,
             15, 23, 24, 9,
             6, 7, 17, 9, 9, 8,
-            63, 63, 63,
+            63, 63,
+            63,
             64};
         due("faults told", texts.length, places.length);
         for (int i = 0; i < texts.length; i++) due("fault of '" + texts[i] + "'", reading(texts[i]), -10 - places[i]);
