@@ -28,30 +28,6 @@ public final class PromisesTest {
         CHECK.end();
     }
 
-    /** A parish with these fields (kind, light in turn). */
-    private static GleanDusk with(int cloud, int... kindsAndLights) {
-        GleanDusk x = new GleanDusk();
-        x.parish(cloud);
-        for (int i = 0; i < kindsAndLights.length; i += 2) x.field(kindsAndLights[i], kindsAndLights[i + 1]);
-        return x;
-    }
-
-    private static GleanDusk gleaners(GleanDusk x, int... fields) {
-        for (int f : fields) x.gleaner(f);
-        return x;
-    }
-
-    private static void typeAll(GleanDusk x, String text) {
-        x.clear();
-        for (int i = 0; i < text.length(); i++) x.type(text.charAt(i));
-    }
-
-    private static int reading(String text) {
-        GleanDusk x = new GleanDusk();
-        typeAll(x, text);
-        return x.read();
-    }
-
     private static void newObject() {
         GleanDusk x = new GleanDusk();
         for (int what = 0; what < 9; what++) due("count " + what, x.count(what), 0);
@@ -64,8 +40,8 @@ public final class PromisesTest {
     }
 
     private static void parish() {
-        GleanDusk x = gleaners(with(3, 0, 60, 1, 20), 0, 1);
-        typeAll(x, "abc");
+        GleanDusk x = Make.gleaners(Make.with(3, 0, 60, 1, 20), 0, 1);
+        Make.typeAll(x, "abc");
         x.rains(0, 5);
         x.missed(0, 0, 0, 0);
         x.note(0, 0, 0, 0, 0);
@@ -133,29 +109,29 @@ public final class PromisesTest {
     private static void clear() {
         GleanDusk x = new GleanDusk();
         due("an empty one", x.clear(), 0);
-        typeAll(x, "parish 4;");
+        Make.typeAll(x, "parish 4;");
         due("nine", x.clear(), 9);
         due("empty", x.count(8), 0);
         due("nothing to read", x.read(), -10);
     }
 
     private static void read() {
-        due("one item", reading("parish 4;"), 1);
-        due("no blanks", reading("parish4;field0 40;gleaner0;glean12;"), 4);
-        due("many blanks", reading("   parish   04  ;  field 00 60 ; "), 2);
+        due("one item", Make.reading("parish 4;"), 1);
+        due("no blanks", Make.reading("parish4;field0 40;gleaner0;glean12;"), 4);
+        due("many blanks", Make.reading("   parish   04  ;  field 00 60 ; "), 2);
         faults();
-        GleanDusk x = gleaners(with(1, 0, 9), 0);
+        GleanDusk x = Make.gleaners(Make.with(1, 0, 9), 0);
         x.rains(0, 0);
         x.missed(0, 0, 0, 0);
         x.note(0, 0, 0, 0, 0);
         x.image(0);
         x.night();
-        typeAll(x, "parish 2;field 1 50;gleaner 0;glean 2;field 4 7;gleaner 1;gleaner 1;glean 1;x");
+        Make.typeAll(x, "parish 2;field 1 50;gleaner 0;glean 2;field 4 7;gleaner 1;gleaner 1;glean 1;x");
         long before = x.digest();
         due("a fault", x.read(), -10 - 76);
         due("all stays", x.digest(), before);
         due("a fault is no refusal", x.status(0) + x.status(1) + x.status(2), 0);
-        typeAll(x, "parish 2;field 1 50;gleaner 0;glean 2;field 4 7;gleaner 1;gleaner 1;glean 1;");
+        Make.typeAll(x, "parish 2;field 1 50;gleaner 0;glean 2;field 4 7;gleaner 1;gleaner 1;glean 1;");
         due("items", x.read(), 8);
         int[] counts = {2, 3, 3, 2, 0, 0, 0, 0, 76};
         for (int what = 0; what < 9; what++) due("count " + what, x.count(what), counts[what]);
@@ -194,11 +170,13 @@ public final class PromisesTest {
             63,
             64};
         due("faults told", texts.length, places.length);
-        for (int i = 0; i < texts.length; i++) due("fault of '" + texts[i] + "'", reading(texts[i]), -10 - places[i]);
+        for (int i = 0; i < texts.length; i++) {
+            due("fault of '" + texts[i] + "'", Make.reading(texts[i]), -10 - places[i]);
+        }
     }
 
     private static void glean() {
-        GleanDusk x = gleaners(with(1, 0, 60, 2, 41), 0, 0, 1);
+        GleanDusk x = Make.gleaners(Make.with(1, 0, 60, 2, 41), 0, 0, 1);
         for (int bad : new int[] {0, 13, -1, LOWEST, HIGHEST}) due("glean " + bad, x.glean(bad), BAD);
         due("59 by two, 20", x.glean(1), 58 + 20);
         due("light of 0", x.of(0, 1), 2);
@@ -212,7 +190,7 @@ public final class PromisesTest {
         due("step", x.count(2), 12);
         due("none left", x.glean(1), NO);
         due("together one", x.count(7), 2);
-        GleanDusk west = gleaners(with(9, 1, 1, 1, 60), 0);
+        GleanDusk west = Make.gleaners(Make.with(9, 1, 1, 1, 60), 0);
         west.glean(11);
         due("more than there is", west.about(0, 1), 6);
         due("light not below 0", west.of(0, 1), 0);
@@ -220,7 +198,7 @@ public final class PromisesTest {
     }
 
     private static void night() {
-        GleanDusk x = gleaners(with(0, 0, 60, 0, 41, 0, 0), 0, 1);
+        GleanDusk x = Make.gleaners(Make.with(0, 0, 60, 0, 41, 0, 0), 0, 1);
         x.glean(1);
         due("dusk", x.night(), 1);
         due("store of 60", x.about(0, 1), 45);
@@ -236,7 +214,7 @@ public final class PromisesTest {
     }
 
     private static void goes() {
-        GleanDusk x = gleaners(with(0, 0, 60, 0, 41), 0);
+        GleanDusk x = Make.gleaners(Make.with(0, 0, 60, 0, 41), 0);
         due("no gleaner", x.goes(1, 0), BAD);
         due("no gleaner", x.goes(-1, 0), BAD);
         due("no field", x.goes(0, 2), BAD);
@@ -251,7 +229,7 @@ public final class PromisesTest {
     }
 
     private static void cloud() {
-        GleanDusk x = with(4, 0, 60);
+        GleanDusk x = Make.with(4, 0, 60);
         for (int bad : new int[] {-1, 10, LOWEST, HIGHEST}) due("cloud " + bad, x.cloud(bad), BAD);
         due("what it was", x.cloud(9), 4);
         due("what it is", x.count(3), 9);
@@ -261,7 +239,7 @@ public final class PromisesTest {
     }
 
     private static void undo() {
-        GleanDusk x = gleaners(with(2, 3, 50, 4, 30), 0, 1);
+        GleanDusk x = Make.gleaners(Make.with(2, 3, 50, 4, 30), 0, 1);
         x.rains(0, 5);
         long first = x.digest();
         x.glean(3);
@@ -297,7 +275,7 @@ public final class PromisesTest {
     }
 
     private static void of() {
-        GleanDusk x = gleaners(with(0, 4, 33, 5, 7), 1, 0, 1, 1, 1);
+        GleanDusk x = Make.gleaners(Make.with(0, 4, 33, 5, 7), 1, 0, 1, 1, 1);
         due("kind", x.of(0, 0), 4);
         due("light", x.of(1, 1), 7);
         due("who", x.of(0, 2), 2);
@@ -307,7 +285,7 @@ public final class PromisesTest {
     }
 
     private static void about() {
-        GleanDusk x = gleaners(with(0, 0, 50, 5, 60), 0, 0, 0, 1);
+        GleanDusk x = Make.gleaners(Make.with(0, 0, 50, 5, 60), 0, 0, 0, 1);
         due("field", x.about(3, 0), 1);
         due("gets", x.about(0, 2), 16);
         due("gets alone", x.about(3, 2), 30);
@@ -320,7 +298,7 @@ public final class PromisesTest {
     }
 
     private static void seen() {
-        GleanDusk x = with(4, 0, 41, 1, 41, 2, 41, 3, 41, 4, 41, 5, 41);
+        GleanDusk x = Make.with(4, 0, 41, 1, 41, 2, 41, 3, 41, 4, 41, 5, 41);
         int[] at0 = {37, 37, 18, 41, 40, 18};
         int[] at5 = {27, 27, 13, 31, 30, 13};
         int[] at6 = {25, 31, 12, 29, 34, 12};
@@ -335,9 +313,9 @@ public final class PromisesTest {
             due("kind " + k + " at 8", x.seen(k, 8), at8[k]);
             due("kind " + k + " at 11", x.seen(k, 11), at11[k]);
         }
-        GleanDusk dark = with(9, 0, 0, 1, 0, 2, 0, 3, 0, 4, 0, 5, 0);
+        GleanDusk dark = Make.with(9, 0, 0, 1, 0, 2, 0, 3, 0, 4, 0, 5, 0);
         for (int k = 0; k < 6; k++) due("dark " + k, dark.seen(k, 11), 0);
-        GleanDusk dim = with(9, 3, 5, 1, 1, 4, 1);
+        GleanDusk dim = Make.with(9, 3, 5, 1, 1, 4, 1);
         due("a puddle's light at most", dim.seen(0, 0), 5);
         due("a puddle late", dim.seen(0, 11), 5);
         due("west with 1", dim.seen(1, 11), 11);
@@ -349,7 +327,7 @@ public final class PromisesTest {
     }
 
     private static void then() {
-        GleanDusk x = gleaners(with(1, 2, 60, 1, 60), 0, 1, 1);
+        GleanDusk x = Make.gleaners(Make.with(1, 2, 60, 1, 60), 0, 1, 1);
         long before = x.digest();
         int now = x.about(0, 1);
         due("none", x.then(0, 0), now);
@@ -368,7 +346,7 @@ public final class PromisesTest {
     }
 
     private static void round() {
-        GleanDusk x = gleaners(with(0, 0, 10, 2, 60, 0, 40), 1, 1);
+        GleanDusk x = Make.gleaners(Make.with(0, 0, 10, 2, 60, 0, 40), 1, 1);
         long before = x.digest();
         due("one step: stay", x.round(0, 1, NONE), 30);
         due("alone there", x.round(0, 1, 0), 1);
@@ -392,7 +370,7 @@ public final class PromisesTest {
         due("beyond 11: nothing", x.round(0, 6, NONE), 0);
         due("the first row", x.round(0, 6, 0), 0);
         due("the first row", x.round(0, 6, 5), 0);
-        GleanDusk late = gleaners(with(0, 0, 0, 1, 60), 0);
+        GleanDusk late = Make.gleaners(Make.with(0, 0, 0, 1, 60), 0);
         late.glean(10);
         due("at 11 still", late.round(0, 3, NONE), 49);
         int[] lateRow = {1, 1, 0};
@@ -400,11 +378,11 @@ public final class PromisesTest {
     }
 
     private static void places() {
-        GleanDusk x = with(0, 0, 10, 0, 60, 0, 31);
+        GleanDusk x = Make.with(0, 0, 10, 0, 60, 0, 31);
         due("no gleaners", x.places(0, NONE), 0);
         due("no gleaners", x.places(1, NONE), 0);
         due("none", x.places(0, 0), -10);
-        gleaners(x, 0, 0);
+        Make.gleaners(x, 0, 0);
         long before = x.digest();
         due("most", x.places(0, NONE), 91);
         due("the first's", x.places(0, 0), 1);
@@ -445,7 +423,7 @@ public final class PromisesTest {
     }
 
     private static void lasts() {
-        GleanDusk x = gleaners(with(0, 0, 40, 0, 0), 0, 1);
+        GleanDusk x = Make.gleaners(Make.with(0, 0, 40, 0, 0), 0, 1);
         x.glean(1);
         due("at 41", x.lasts(0, 41), 0);
         due("at 40", x.lasts(0, 40), 1);
@@ -461,7 +439,7 @@ public final class PromisesTest {
         GleanDusk x = new GleanDusk();
         due("nobody is enough", x.enough(0), 0);
         due("none", x.enough(1), NONE);
-        x = gleaners(with(0, 0, 10, 0, 20, 0, 25, 0, 20), 0, 1, 2, 3);
+        x = Make.gleaners(Make.with(0, 0, 10, 0, 20, 0, 25, 0, 20), 0, 1, 2, 3);
         x.glean(1);
         due("one", x.enough(10), 1);
         due("one", x.enough(20), 2);
@@ -477,7 +455,7 @@ public final class PromisesTest {
     }
 
     private static void missed() {
-        GleanDusk x = with(0, 0, 10);
+        GleanDusk x = Make.with(0, 0, 10);
         int[] bad = {-1, LOWEST, HIGHEST};
         for (int b : bad) {
             due("field " + b, x.missed(b, 0, 0, 0), BAD);
@@ -497,7 +475,7 @@ public final class PromisesTest {
     }
 
     private static void clouds() {
-        GleanDusk x = with(0, 0, 10, 4, 10, 2, 10);
+        GleanDusk x = Make.with(0, 0, 10, 4, 10, 2, 10);
         due("all", x.clouds(), 1023);
         x.missed(1, 0, 20, 20);
         due("a hill: 0 to 3", x.clouds(), 15);
@@ -513,7 +491,7 @@ public final class PromisesTest {
     }
 
     private static void note() {
-        GleanDusk x = with(0, 0, 10);
+        GleanDusk x = Make.with(0, 0, 10);
         int[] bad = {-1, LOWEST, HIGHEST};
         for (int b : bad) {
             due("field " + b, x.note(b, 0, 0, 0, 0), BAD);
@@ -534,7 +512,7 @@ public final class PromisesTest {
     }
 
     private static void forget() {
-        GleanDusk x = with(0, 0, 10);
+        GleanDusk x = Make.with(0, 0, 10);
         for (int bad : new int[] {-1, 2, LOWEST, HIGHEST}) due("what " + bad, x.forget(bad), BAD);
         x.missed(0, 0, 0, 0);
         x.missed(0, 0, 0, 60);
@@ -547,7 +525,7 @@ public final class PromisesTest {
     }
 
     private static void is() {
-        GleanDusk x = with(0, 0, 10, 1, 10);
+        GleanDusk x = Make.with(0, 0, 10, 1, 10);
         due("no notes", x.is(0), 63);
         x.note(0, 0, 40, 2, 40);
         due("puddle or hill", x.is(0), 24);
@@ -560,7 +538,7 @@ public final class PromisesTest {
     }
 
     private static void look() {
-        GleanDusk x = with(0, 0, 60, 1, 0);
+        GleanDusk x = Make.with(0, 0, 60, 1, 0);
         due("all", x.look(0), 801);
         due("in the dark all are alike", x.look(1), 0);
         x.note(0, 0, 40, 2, 40);
@@ -573,7 +551,7 @@ public final class PromisesTest {
     }
 
     private static void two() {
-        GleanDusk x = gleaners(with(0, 0, 20, 0, 20, 0, 9), 0, 0, 2);
+        GleanDusk x = Make.gleaners(Make.with(0, 0, 20, 0, 20, 0, 9), 0, 0, 2);
         long before = x.digest();
         due("how many", x.two(0, 1, NONE), 2);
         due("0 and 1", x.two(0, 1, 0), 1);
@@ -597,7 +575,7 @@ public final class PromisesTest {
     }
 
     private static void rains() {
-        GleanDusk x = with(3, 0, 41);
+        GleanDusk x = Make.with(3, 0, 41);
         due("odds 3", x.rains(0, 3), 1);
         due("above", x.part(0), 73);
         due("below", x.part(1), 2);
@@ -621,7 +599,7 @@ public final class PromisesTest {
     }
 
     private static void summers() {
-        GleanDusk x = gleaners(with(3, 0, 41, 1, 60), 0, 1, 1);
+        GleanDusk x = Make.gleaners(Make.with(3, 0, 41, 1, 60), 0, 1, 1);
         long before = x.digest();
         due("none", x.summers(7, 0), 0);
         int[] sums = new int[61];
@@ -638,12 +616,12 @@ public final class PromisesTest {
         }
         for (int bad : new int[] {-1, 1000000, LOWEST, HIGHEST}) due("seed " + bad, x.summers(bad, 0), BAD);
         for (int bad : new int[] {-1, 61, LOWEST, HIGHEST}) due("n " + bad, x.summers(0, bad), BAD);
-        GleanDusk one = gleaners(with(0, 0, 60), 0);
+        GleanDusk one = Make.gleaners(Make.with(0, 0, 60), 0);
         due("seed 1: cloud 8", one.summers(1, 1), 52);
     }
 
     private static void part() {
-        GleanDusk x = with(0, 0, 41);
+        GleanDusk x = Make.with(0, 0, 41);
         for (int bad : new int[] {-1, 2, LOWEST, HIGHEST}) due("what " + bad, x.part(bad), BAD);
         due("counted", x.status(0), 4);
         due("above", x.part(0), 0);
@@ -654,7 +632,7 @@ public final class PromisesTest {
     }
 
     private static void image() {
-        GleanDusk x = gleaners(with(5, 0, 41), 0);
+        GleanDusk x = Make.gleaners(Make.with(5, 0, 41), 0);
         for (int bad : new int[] {-1, 2, LOWEST, HIGHEST}) due("image " + bad, x.image(bad), BAD);
         x.missed(0, 1, 2, 3);
         x.note(0, 1, 2, 3, 4);
@@ -689,13 +667,13 @@ public final class PromisesTest {
     }
 
     private static void from() {
-        GleanDusk x = with(5, 0, 41);
+        GleanDusk x = Make.with(5, 0, 41);
         for (int bad : new int[] {-1, 2, LOWEST, HIGHEST}) due("image " + bad, x.from(bad), BAD);
         due("none was kept", x.from(0), NO);
         x.image(0);
         due("another was kept", x.from(1), NO);
         x.rains(0, 3);
-        typeAll(x, "abc");
+        Make.typeAll(x, "abc");
         long above = x.part(0);
         due("from", x.from(0), 1);
         due("the fraction stays", x.part(0), above);
@@ -738,13 +716,13 @@ public final class PromisesTest {
     }
 
     private static void count() {
-        GleanDusk x = gleaners(with(5, 0, 41, 1, 1, 1, 1), 0, 0);
+        GleanDusk x = Make.gleaners(Make.with(5, 0, 41, 1, 1, 1, 1), 0, 0);
         x.glean(4);
         x.night();
         x.glean(3);
         x.missed(0, 0, 0, 0);
         for (int i = 0; i < 2; i++) x.note(0, 0, 0, 0, 0);
-        typeAll(x, "abcd");
+        Make.typeAll(x, "abcd");
         int[] counts = {3, 2, 3, 5, 1, 1, 2, 3, 4};
         for (int what = 0; what < 9; what++) due("count " + what, x.count(what), counts[what]);
         for (int bad : new int[] {-1, 9, LOWEST, HIGHEST}) due("what " + bad, x.count(bad), BAD);
@@ -754,13 +732,13 @@ public final class PromisesTest {
     private static void digest() {
         GleanDusk x = new GleanDusk();
         due("at first", x.digest(), fold(0, 0, 0, 0, 0, 0, 0, 0, 0, 0, 1));
-        x = gleaners(with(5, 0, 41, 1, 30), 1);
+        x = Make.gleaners(Make.with(5, 0, 41, 1, 30), 1);
         x.glean(1);
         x.missed(0, 1, 2, 3);
         x.note(1, 4, 5, 6, 7);
         x.note(0, 8, 9, 1, 2);
         x.rains(0, 3);
-        typeAll(x, "ab");
+        Make.typeAll(x, "ab");
         due("all of it", x.digest(), fold(2, 1, 1, 5, 0, 1, 2, 1, 2, 0, 41, 1, 5, 1, 25,
             0, 1, 2, 3, 1, 4, 5, 6, 7, 0, 8, 9, 1, 2, x.part(0), x.part(1)));
         due("above", x.part(0), 164);
